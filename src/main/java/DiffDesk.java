@@ -385,6 +385,7 @@ public final class DiffDesk {
             script.empty();
             int i = 0;
             int j = 0;
+            // Each step moves i or j on, and neither goes beyond its end.
             while (i + j < a.count + b.count) {
                 int step = stepAt(i, j);
                 if (step == DELETE) {

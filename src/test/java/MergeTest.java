@@ -7,6 +7,7 @@ public final class MergeTest {
     longestResult();
     changesTheResultAlone();
     latestOfPatchAndMergeCounts();
+    eachMergeBeginsAnew();
     limitDoesNotCount();
     Check.end("MergeTest");
   }
@@ -136,6 +137,14 @@ public final class MergeTest {
     desk.merge();
     Check.due("merged to nothing", desk.results(), 0);
     Check.due("nothing there", desk.result(0), -40);
+  }
+
+  private static void eachMergeBeginsAnew() {
+    DiffDesk desk = Check.desk(40, Check.row(1, 5), Check.row(2, 5), Check.row(1, 5));
+    for (int time = 0; time < 3; time++) {
+      Check.due("merge " + time, desk.merge(), 0);
+      Check.due("its result", Check.resultOf(desk), "2 5");
+    }
   }
 
   private static void limitDoesNotCount() {

@@ -126,11 +126,7 @@ public final class PatchTest {
 
   private static void tooLong() {
     for (int place : new int[] {0, 10, 20}) {
-      DiffDesk desk = new DiffDesk(40);
-      Check.feedSame(desk, 0, 7, 20);
-      for (int k = 0; k < 40; k++) {
-        load(desk, 1, place, k);
-      }
+      DiffDesk desk = fullRowAndInsertions(place, 40);
       Check.due("60 symbols", desk.patch(0), 60);
       Check.due("the last of 60", desk.result(59), place == 20 ? 39 : 7);
       load(desk, 1, place, 40);
@@ -153,27 +149,25 @@ public final class PatchTest {
   // The document calls the first operation for which something is wrong: that is taken to hold for
   // the operation too which would put the 61st symbol to the result.
   private static void tooLongAtAnOperationComesBeforeLaterFaults() {
-    DiffDesk desk = new DiffDesk(40);
-    Check.feedSame(desk, 0, 7, 20);
-    for (int k = 0; k < 41; k++) {
-      load(desk, 1, 20, k);
-    }
+    DiffDesk desk = fullRowAndInsertions(20, 41);
     load(desk, 5, 0, 0);
     Check.dueThrow("61st symbol, then a wrong kind", LONG, () -> desk.patch(0));
-    DiffDesk late = new DiffDesk(40);
-    Check.feedSame(late, 0, 7, 20);
-    for (int k = 0; k < 41; k++) {
-      load(late, 1, 0, k);
-    }
+    DiffDesk late = fullRowAndInsertions(0, 41);
     load(late, 0, 20, 7);
     Check.dueThrow("a wrong place before the 61st symbol", PLACE, () -> late.patch(0));
-    DiffDesk same = new DiffDesk(40);
-    Check.feedSame(same, 0, 7, 20);
-    for (int k = 0; k < 50; k++) {
-      load(same, 1, 0, k);
-    }
+    DiffDesk same = fullRowAndInsertions(0, 50);
     load(same, 0, 19, 6);
     Check.dueThrow("another symbol and too long at once", STATE, () -> same.patch(0));
+  }
+
+  /** Row 0 has 20 times 7, and the script inserts 0, 1, 2 .. at a place. */
+  private static DiffDesk fullRowAndInsertions(int place, int times) {
+    DiffDesk desk = new DiffDesk(40);
+    Check.feedSame(desk, 0, 7, 20);
+    for (int k = 0; k < times; k++) {
+      load(desk, 1, place, k);
+    }
+    return desk;
   }
 
   private static void firstFaultCounts() {
