@@ -1,3 +1,5 @@
+import java.io.IOException;
+import java.io.UncheckedIOException;
 import java.lang.reflect.Executable;
 import java.lang.reflect.Field;
 import java.lang.reflect.Method;
@@ -34,11 +36,12 @@ public final class FaceTest {
     "hashCode", "equals(", "toString", "System.", "Random", "protected", "double", "new ArrayList",
   };
 
-  public static void main(String[] args) throws Exception {
-    faceIsAsTheDocumentSays();
-    classesInsideAreStaticAndHidden();
-    fieldsAreNotSharedState();
-    sourceKeepsToTheLanguage();
+  public static void main(String[] args) {
+    Check.holds("The public face", FaceTest::faceIsAsTheDocumentSays);
+    Check.holds("LANGUAGE.md 1: no private method bears the name of a public one", FaceTest::privateNamesAreTheirOwn);
+    Check.holds("LANGUAGE.md 1 and 11: the classes inside", FaceTest::classesInsideAreStaticAndHidden);
+    Check.holds("LANGUAGE.md 5: static fields are final", FaceTest::fieldsAreNotSharedState);
+    Check.holds("LANGUAGE.md 4, 6 and 13: what the source does without", FaceTest::sourceKeepsToTheLanguage);
     Check.end("FaceTest");
   }
 
@@ -55,15 +58,20 @@ public final class FaceTest {
     for (Executable constructor : face.getDeclaredConstructors()) {
       found.add(constructor.toGenericString());
     }
-    Set<String> publicNames = new TreeSet<>();
     for (Method method : face.getDeclaredMethods()) {
       if (!Modifier.isPrivate(method.getModifiers())) {
         found.add(method.toGenericString());
-        publicNames.add(method.getName());
       }
     }
     Check.due("the face", found, new TreeSet<>(FACE));
-    for (Method method : face.getDeclaredMethods()) {
+  }
+
+  private static void privateNamesAreTheirOwn() {
+    Set<String> publicNames = new TreeSet<>();
+    for (Method method : DiffDesk.class.getMethods()) {
+      publicNames.add(method.getName());
+    }
+    for (Method method : DiffDesk.class.getDeclaredMethods()) {
       if (Modifier.isPrivate(method.getModifiers())) {
         Check.due("a private method named " + method.getName(), publicNames.contains(method.getName()), false);
       }
@@ -87,9 +95,17 @@ public final class FaceTest {
     }
   }
 
-  private static void sourceKeepsToTheLanguage() throws Exception {
-    String source = Files.readString(Path.of("src/main/java/DiffDesk.java"));
-    String code = source.replaceAll("(?s)/\\*.*?\\*/", "").replaceAll("//[^\\n]*", "").replaceAll("\"[^\"\\n]*\"", "\"\"");
+  private static String source() {
+    try {
+      return Files.readString(Path.of("src/main/java/DiffDesk.java"));
+    } catch (IOException e) {
+      throw new UncheckedIOException(e);
+    }
+  }
+
+  private static void sourceKeepsToTheLanguage() {
+    String withoutComments = source().replaceAll("(?s)/\\*.*?\\*/", "").replaceAll("//[^\\n]*", "");
+    String code = withoutComments.replaceAll("\"[^\"\\n]*\"", "\"\"");
     for (String word : FORBIDDEN) {
       Check.due("the source has '" + word + "'", code.contains(word), false);
     }

@@ -11,12 +11,16 @@ public final class ModelTest {
   private static final int CALLS = 200;
 
   public static void main(String[] args) {
+    Check.holds("Terms and promises 1 to 16, in runs of calls", ModelTest::manyRuns);
+    Check.end("ModelTest");
+  }
+
+  private static void manyRuns() {
     Random random = new Random(20261117);
     for (int run = 0; run < RUNS; run++) {
       int limit = random.nextInt(4) == 0 ? random.nextInt(60) - 10 : 40;
       oneRun(random, run, limit, 2 + random.nextInt(5));
     }
-    Check.end("ModelTest");
   }
 
   private static void oneRun(Random random, int run, int limit, int symbols) {
