@@ -48,7 +48,7 @@ public final class DiffDesk {
         latest = new Script();
         latestSize = 0;
         comparison = new Comparison();
-        merger = new Merger(rows[0], rows[1], rows[2]);
+        merger = new Merger();
         result = new Row(MERGED_MOST);
         draft = new Row(MERGED_MOST);
     }
@@ -141,7 +141,8 @@ public final class DiffDesk {
 
     public int merge() {
         result.empty();
-        return merger.mergeTo(result, comparison);
+        merger.begin(rows[0], rows[1], rows[2], comparison);
+        return merger.mergeTo(result);
     }
 
     public int result(int k) {
@@ -364,7 +365,7 @@ public final class DiffDesk {
         Comparison() {
             rest = new int[ROW_MOST + 1][ROW_MOST + 1];
             a = new Row(0);
-            b = a;
+            b = new Row(0);
         }
 
         void compare(Row from, Row to) {
@@ -437,17 +438,18 @@ public final class DiffDesk {
 
     /** The symbols of one row between two stable ones. */
     private static final class Stretch {
-        private final Row row;
+        private Row row;
         private int from;
         private int to;
 
-        Stretch(Row row) {
-            this.row = row;
+        Stretch() {
+            row = new Row(0);
             from = 0;
             to = 0;
         }
 
-        void begin() {
+        void begin(Row in) {
+            row = in;
             from = 0;
             to = 0;
         }
@@ -460,12 +462,20 @@ public final class DiffDesk {
             from = to + 1;
         }
 
+        int endOfRow() {
+            return row.count;
+        }
+
+        int symbolAt(int place) {
+            return row.at(place, NONE);
+        }
+
         boolean isSameAs(Stretch other) {
             if (to - from != other.to - other.from) {
                 return false;
             }
             for (int k = 0; k < to - from; k++) {
-                if (row.at(from + k, NONE) != other.row.at(other.from + k, NONE)) {
+                if (symbolAt(from + k) != other.symbolAt(other.from + k)) {
                     return false;
                 }
             }
@@ -479,45 +489,42 @@ public final class DiffDesk {
 
     /** Merges two rows over their base. */
     private static final class Merger {
-        private final Row baseRow;
-        private final Row row1;
-        private final Row row2;
         private final Row keptWith1;
         private final Row keptWith2;
         private final Stretch base;
         private final Stretch one;
         private final Stretch two;
 
-        Merger(Row baseRow, Row row1, Row row2) {
-            this.baseRow = baseRow;
-            this.row1 = row1;
-            this.row2 = row2;
+        Merger() {
             keptWith1 = new Row(ROW_MOST);
             keptWith2 = new Row(ROW_MOST);
-            base = new Stretch(baseRow);
-            one = new Stretch(row1);
-            two = new Stretch(row2);
+            base = new Stretch();
+            one = new Stretch();
+            two = new Stretch();
         }
 
-        /** Answers how many conflicts there were. */
-        int mergeTo(Row result, Comparison comparison) {
+        void begin(Row baseRow, Row row1, Row row2, Comparison comparison) {
             comparison.compare(baseRow, row1);
             comparison.pairTo(keptWith1);
             comparison.compare(baseRow, row2);
             comparison.pairTo(keptWith2);
-            base.begin();
-            one.begin();
-            two.begin();
+            base.begin(baseRow);
+            one.begin(row1);
+            two.begin(row2);
+        }
+
+        /** Answers how many conflicts there were. */
+        int mergeTo(Row result) {
             int conflicts = 0;
-            for (int k = 0; k < baseRow.count; k++) {
+            for (int k = 0; k < base.endOfRow(); k++) {
                 if (isStable(k)) {
                     endStretches(k, keptWith1.at(k, NONE), keptWith2.at(k, NONE));
                     conflicts += mergeStretch(result);
-                    result.add(baseRow.at(k, NONE));
+                    result.add(base.symbolAt(k));
                     goOnBehindStable();
                 }
             }
-            endStretches(baseRow.count, row1.count, row2.count);
+            endStretches(base.endOfRow(), one.endOfRow(), two.endOfRow());
             return conflicts + mergeStretch(result);
         }
 
